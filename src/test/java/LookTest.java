@@ -163,6 +163,10 @@ public final class LookTest {
         x.sensor(3, true);
         x.sensor(6, true);
         check.equal("P22 none is broken any more", x.worst(), StairLight.NONE);
+        x.sensor(7, false);
+        check.equal("P22 the highest floor", x.worst(), 7);
+        x.sensor(0, false);
+        check.equal("P22 the lowest floor", x.worst(), 0);
     }
 
     private static void lightnessAnswers() {

@@ -209,6 +209,36 @@ public final class OutlookTest {
         }
         x.fire(true);
         check.equal("P24 in a fire", x.digest(), digestOf(x, ""));
+        digestOfWays();
+        digestOfAllDark();
+    }
+
+    /** Ways whose numbers differ from those of the ways beside them. */
+    private static void digestOfWays() {
+        StairLight x = new StairLight();
+        x.sensor(0, false);
+        x.sensor(5, false);
+        check.equal("P24 dark from 0", x.dark(0, 7), 15);
+        check.equal("P24 dark from 6", x.dark(6, 2), 8);
+        check.equal("P24 with those", x.digest(), digestOf(x, ""));
+        x.set(2, 1);
+        check.equal("P24 least time from 1", x.leastTime(1, 5), 2);
+        check.equal("P24 not to 6", x.leastTime(1, 6), 9);
+        check.equal("P24 with that", x.digest(), digestOf(x, ""));
+    }
+
+    private static void digestOfAllDark() {
+        StairLight x = new StairLight();
+        x.sensor(0, false);
+        x.come(0, 7);
+        x.pass(4);
+        check.same("P24 no light at all", x.lightness(), 0.0);
+        check.equal("P24 of no light", x.digest(), digestOf(x, ""));
+        x.press(0);
+        for (int second = 5; second < 60; second++) {
+            x.pass(1);
+            check.equal("P24 of some light, in second " + second, x.digest(), digestOf(x, ""));
+        }
     }
 
     /** The digest from what the other calls answer, in the order of the document. */
