@@ -426,7 +426,9 @@ public final class StairLight {
     }
 
     private static void raise(int[] row, int place, int more) {
-        put(row, place, at(row, place) + more);
+        if (place >= 0 && place < row.length) {
+            row[place] += more;
+        }
     }
 
     private static int sumOf(int[] row) {
@@ -659,7 +661,7 @@ public final class StairLight {
             return people.enter(floor, goal, at(settings, WALK_TIME));
         }
 
-        /** Switches a lamp on, if there is such a floor. */
+        /** Switches a lamp on, if there is such a floor: the floors 0 and 7 have one neighbour each. */
         void switchOn(int floor) {
             floors.letBurn(floor, at(settings, BURN_TIME));
         }
@@ -716,16 +718,12 @@ public final class StairLight {
             people.goOn(at(settings, WALK_TIME));
             for (int floor = 0; floor < FLOORS; floor++) {
                 if (at(floors.sound, floor) == 1 && people.peopleOn(floor) > 0) {
-                    switchOnAround(floor);
+                    switchOn(floor);
+                    if (at(settings, NEIGHBOURS) == 1) {
+                        switchOn(floor - 1);
+                        switchOn(floor + 1);
+                    }
                 }
-            }
-        }
-
-        private void switchOnAround(int floor) {
-            switchOn(floor);
-            if (at(settings, NEIGHBOURS) == 1) {
-                switchOn(floor - 1);
-                switchOn(floor + 1);
             }
         }
 

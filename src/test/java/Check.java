@@ -2,10 +2,24 @@
 final class Check {
     private int right = 0;
     private int wrong = 0;
+    private String sentence = "";
 
     /** A call that may throw. */
     interface Call {
         void run();
+    }
+
+    /** A test of a sentence of the document: what is not as due in it is told with the sentence. */
+    void sentence(String words, Call test) {
+        int before = right + wrong;
+        sentence = "[" + words + "] ";
+        try {
+            test.run();
+        } catch (RuntimeException e) {
+            tell(false, "a call threw " + e);
+        }
+        tell(right + wrong > before, "nothing was checked");
+        sentence = "";
     }
 
     void equal(String what, long got, long due) {
@@ -23,6 +37,12 @@ final class Check {
     /** The call must throw that very class, and leave the object as it was. */
     void refused(String what, Class<? extends RuntimeException> due, StairLight stairs, Call call) {
         long before = stairs.digest();
+        throwsThat(what, due, call);
+        tell(stairs.digest() == before, what + " changed the state, though it is refused");
+    }
+
+    /** The call must throw that very class; what it leaves is not looked at. */
+    void throwsThat(String what, Class<? extends RuntimeException> due, Call call) {
         Class<?> thrown = null;
         try {
             call.run();
@@ -30,7 +50,6 @@ final class Check {
             thrown = e.getClass();
         }
         tell(thrown == due, what + " threw " + thrown + ", due is " + due);
-        tell(stairs.digest() == before, what + " changed the state, though it is refused");
     }
 
     void end(String title) {
@@ -45,7 +64,7 @@ final class Check {
             right++;
         } else {
             wrong++;
-            System.out.println("not as due: " + text);
+            System.out.println("not as due: " + sentence + text);
         }
     }
 }

@@ -1,7 +1,6 @@
 /** Promises 15 to 18, and 22 and 23: what can be looked at, without a change. */
 public final class LookTest {
     private static final Check check = new Check();
-    private static final int[] NO_FLOORS = {-1, 8, Integer.MIN_VALUE, Integer.MAX_VALUE};
 
     public static void main(String[] args) {
         floorAnswers();
@@ -56,11 +55,11 @@ public final class LookTest {
 
     private static void floorRefuses() {
         StairLight x = stairs();
-        for (int floor : NO_FLOORS) {
+        for (int floor : Scene.NO_FLOORS) {
             check.refused("P15 floor " + floor, IndexOutOfBoundsException.class, x, () -> x.floor(floor, 0));
             check.refused("P15 floor, and what", IndexOutOfBoundsException.class, x, () -> x.floor(floor, 8));
         }
-        for (int what : NO_FLOORS) {
+        for (int what : Scene.NO_FLOORS) {
             check.refused("P15 what " + what, IllegalArgumentException.class, x, () -> x.floor(0, what));
         }
     }

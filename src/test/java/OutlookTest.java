@@ -46,12 +46,6 @@ public final class OutlookTest {
         }
     }
 
-    private static void breakAll(StairLight x) {
-        for (int floor = 0; floor < 8; floor++) {
-            x.sensor(floor, false);
-        }
-    }
-
     private static void darkAnswers() {
         StairLight x = new StairLight();
         check.equal("P20 all sound", x.dark(0, 7), 0);
@@ -73,7 +67,7 @@ public final class OutlookTest {
         x.fire(true);
         check.equal("P20 fire", x.dark(0, 7), 0);
         StairLight y = new StairLight();
-        breakAll(y);
+        Scene.breakAll(y);
         y.set(3, 60);
         check.equal("P20 the longest way", y.dark(0, 7), 420);
         check.equal("P20 down", y.dark(7, 0), 420);
@@ -112,7 +106,7 @@ public final class OutlookTest {
     private static void leastTimeAnswers() {
         StairLight x = new StairLight();
         check.equal("P21 sensors see", x.leastTime(0, 7), 1);
-        breakAll(x);
+        Scene.breakAll(x);
         check.equal("P21 no lamp is switched on", x.leastTime(0, 7), 1);
         StairLight y = new StairLight();
         y.sensor(3, false);
@@ -185,32 +179,38 @@ public final class OutlookTest {
 
     private static void digestAnswers() {
         StairLight x = new StairLight();
-        check.equal("P24 a new object", x.digest(), digestOf(x, ""));
+        check.equal("P24 a new object", x.digest(), Scene.digestOf(x, ""));
         x.append('a');
         x.append('0');
-        check.equal("P24 with a buffer", x.digest(), digestOf(x, "a0"));
+        check.equal("P24 with a buffer", x.digest(), Scene.digestOf(x, "a0"));
         x.clearBuffer();
-        check.equal("P24 with a cleared one", x.digest(), digestOf(x, ""));
+        check.equal("P24 with a cleared one", x.digest(), Scene.digestOf(x, ""));
+        for (int seconds = 1; seconds <= 36; seconds++) {
+            StairLight day = walkers(seconds);
+            check.equal("P24 with people, after " + seconds, day.digest(), Scene.digestOf(day, ""));
+            StairLight night = walkers(seconds);
+            night.night(true);
+            night.come(2, 7);
+            night.pass(seconds);
+            check.equal("P24 at night, after " + seconds, night.digest(), Scene.digestOf(night, ""));
+        }
+        StairLight fire = walkers(5);
+        fire.fire(true);
+        check.equal("P24 in a fire", fire.digest(), Scene.digestOf(fire, ""));
+        digestOfWays();
+        digestOfAllDark();
+    }
+
+    private static StairLight walkers(int seconds) {
+        StairLight x = new StairLight();
         x.sensor(2, false);
         x.sensor(4, false);
         x.set(2, 1);
         x.set(0, 13);
         x.come(3, 0);
         x.come(5, 7);
-        for (int i = 0; i < 12; i++) {
-            x.pass(3);
-            check.equal("P24 with people, in second " + x.count(0), x.digest(), digestOf(x, ""));
-        }
-        x.night(true);
-        x.come(2, 7);
-        for (int i = 0; i < 12; i++) {
-            x.pass(1);
-            check.equal("P24 at night, in second " + x.count(0), x.digest(), digestOf(x, ""));
-        }
-        x.fire(true);
-        check.equal("P24 in a fire", x.digest(), digestOf(x, ""));
-        digestOfWays();
-        digestOfAllDark();
+        x.pass(seconds);
+        return x;
     }
 
     /** Ways whose numbers differ from those of the ways beside them. */
@@ -220,11 +220,11 @@ public final class OutlookTest {
         x.sensor(5, false);
         check.equal("P24 dark from 0", x.dark(0, 7), 15);
         check.equal("P24 dark from 6", x.dark(6, 2), 8);
-        check.equal("P24 with those", x.digest(), digestOf(x, ""));
+        check.equal("P24 with those", x.digest(), Scene.digestOf(x, ""));
         x.set(2, 1);
         check.equal("P24 least time from 1", x.leastTime(1, 5), 2);
         check.equal("P24 not to 6", x.leastTime(1, 6), 9);
-        check.equal("P24 with that", x.digest(), digestOf(x, ""));
+        check.equal("P24 with that", x.digest(), Scene.digestOf(x, ""));
     }
 
     private static void digestOfAllDark() {
@@ -233,41 +233,15 @@ public final class OutlookTest {
         x.come(0, 7);
         x.pass(4);
         check.same("P24 no light at all", x.lightness(), 0.0);
-        check.equal("P24 of no light", x.digest(), digestOf(x, ""));
-        x.press(0);
-        for (int second = 5; second < 60; second++) {
-            x.pass(1);
-            check.equal("P24 of some light, in second " + second, x.digest(), digestOf(x, ""));
+        check.equal("P24 of no light", x.digest(), Scene.digestOf(x, ""));
+        for (int seconds = 1; seconds < 56; seconds++) {
+            StairLight y = new StairLight();
+            y.sensor(0, false);
+            y.come(0, 7);
+            y.pass(4);
+            y.press(0);
+            y.pass(seconds);
+            check.equal("P24 of some light, after " + seconds, y.digest(), Scene.digestOf(y, ""));
         }
-    }
-
-    /** The digest from what the other calls answer, in the order of the document. */
-    private static long digestOf(StairLight x, String buffer) {
-        long hash = 3061;
-        for (int what = 0; what <= 10; what++) {
-            hash = 31 * hash + x.count(what);
-        }
-        for (int setting = 0; setting < 4; setting++) {
-            hash = 31 * hash + x.setting(setting);
-        }
-        for (int i = 0; i < 64; i++) {
-            hash = 31 * hash + x.floor(i / 8, i % 8);
-        }
-        for (int i = 0; i < 4 * x.count(1); i++) {
-            hash = 31 * hash + x.person(i / 4, i % 4);
-        }
-        for (int what = 0; what < 4; what++) {
-            hash = 31 * hash + x.ifPassed(30, what);
-        }
-        hash = 31 * hash + x.dark(0, 7);
-        hash = 31 * hash + x.dark(6, 2);
-        hash = 31 * hash + x.leastTime(1, 5);
-        hash = 31 * hash + x.worst();
-        hash = 31 * hash + Double.doubleToLongBits(x.lightness());
-        hash = 31 * hash + buffer.length();
-        for (int i = 0; i < buffer.length(); i++) {
-            hash = 31 * hash + buffer.charAt(i);
-        }
-        return hash;
     }
 }

@@ -16,12 +16,6 @@ public final class TextTest {
         check.end("TextTest");
     }
 
-    private static void type(StairLight x, String text) {
-        for (int i = 0; i < text.length(); i++) {
-            x.append(text.charAt(i));
-        }
-    }
-
     private static void appendAnswers() {
         StairLight x = new StairLight();
         check.equal("P10 the first", x.append(33), 1);
@@ -47,7 +41,7 @@ public final class TextTest {
     private static void clearBufferAnswers() {
         StairLight x = new StairLight();
         check.equal("P11 empty", x.clearBuffer(), 0);
-        type(x, "0>1");
+        Scene.type(x, "0>1");
         check.equal("P11 its length", x.clearBuffer(), 3);
         check.equal("P11 empty again", x.clearBuffer(), 0);
         check.equal("P11 from the start", x.append('5'), 1);
@@ -56,7 +50,7 @@ public final class TextTest {
 
     private static void errorIn(String text, int due) {
         StairLight x = new StairLight();
-        type(x, text);
+        Scene.type(x, text);
         long before = x.digest();
         check.equal("P12 \"" + text + "\"", x.firstError(), due);
         check.isTrue("P12 changes nothing", x.digest() == before);
@@ -99,7 +93,7 @@ public final class TextTest {
 
     private static void comeAllAnswers() {
         StairLight x = new StairLight();
-        type(x, "0>3;7<6");
+        Scene.type(x, "0>3;7<6");
         check.equal("P13 room for both", x.comeAll(), 0);
         check.equal("P13 undoable, as one call", x.count(10), 1);
         check.equal("P13 clears the buffer", x.clearBuffer(), 0);
@@ -117,7 +111,7 @@ public final class TextTest {
         StairLight x = new StairLight();
         x.come(0, 7);
         x.pass(1);
-        type(x, "0>7;0>7;0>7;1>2;0>7;7<0;6<0");
+        Scene.type(x, "0>7;0>7;0>7;1>2;0>7;7<0;6<0");
         // Five more have room at once; the one to floor 2 is gone after 9 seconds, the first one 55 after the pass.
         check.equal("P13 waits for both", x.comeAll(), 56);
         check.equal("P13 seconds gone", x.count(0), 57);
@@ -136,65 +130,30 @@ public final class TextTest {
         String[] wrong = {"", "0", "0>", "0>1;", "0>1;2", "0>1;2>", "0>1;2>3;", "0>0", "8>1", "0>1,2>3", "0>12>3"};
         for (String text : wrong) {
             StairLight x = new StairLight();
-            type(x, text);
+            Scene.type(x, text);
             check.refused("P13 \"" + text + "\"", IllegalArgumentException.class, x, x::comeAll);
         }
     }
 
     private static void undoAnswers() {
-        StairLight x = new StairLight();
-        long[] before = new long[9];
-        x.come(1, 5);
-        x.sensor(2, false);
-        StairLight y = new StairLight();
-        before[0] = look(y);
-        y.come(0, 7);
-        before[1] = look(y);
-        y.turn(0, 3);
-        before[2] = look(y);
-        y.press(4);
-        before[3] = look(y);
-        y.sensor(0, false);
-        before[4] = look(y);
-        y.night(true);
-        before[5] = look(y);
-        y.fire(true);
-        before[6] = look(y);
-        y.set(0, 3);
-        before[7] = look(y);
-        y.pass(30);
-        before[8] = look(y);
-        y.fire(false);
+        Scene.Step[] steps = {x -> x.come(0, 7), x -> x.turn(0, 3), x -> x.press(4), x -> x.sensor(0, false),
+            x -> x.night(true), x -> x.fire(true), x -> x.set(0, 3), x -> x.pass(30), x -> x.fire(false)};
+        StairLight y = Scene.after(steps, steps.length);
         check.equal("P14 six at most", y.count(10), 6);
         for (int left = 5; left >= 0; left--) {
             check.equal("P14 states left", y.undo(), left);
-            check.isTrue("P14 as before, with " + left, look(y) == before[left + 3]);
+            String due = Scene.look(Scene.after(steps, left + 3));
+            check.isTrue("P14 as before, with " + left, Scene.look(y).equals(due));
         }
         check.refused("P14 the older ones are dropped", IllegalStateException.class, y, y::undo);
         y.press(1);
         check.equal("P14 a new one is saved", y.undo(), 0);
-        check.isTrue("P14 as before it", look(y) == before[3]);
+        check.isTrue("P14 as before it", Scene.look(y).equals(Scene.look(Scene.after(steps, 3))));
+        StairLight x = new StairLight();
+        x.come(1, 5);
         x.fire(false);
-        check.equal("P14 saved though nothing changed", x.count(10), 3);
-        check.equal("P14 and dropped", x.undo(), 2);
-    }
-
-    /** All that undo brings back, in one number: what can be asked but for the number of saved states. */
-    private static long look(StairLight x) {
-        long hash = 1;
-        for (int what = 0; what < 10; what++) {
-            hash = 31 * hash + x.count(what);
-        }
-        for (int i = 0; i < 64; i++) {
-            hash = 31 * hash + x.floor(i / 8, i % 8);
-        }
-        for (int i = 0; i < 24; i++) {
-            hash = 31 * hash + x.person(i / 4, i % 4);
-        }
-        for (int i = 0; i < 4; i++) {
-            hash = 31 * hash + x.setting(i);
-        }
-        return 31 * hash + Double.doubleToLongBits(x.lightness());
+        check.equal("P14 saved though nothing changed", x.count(10), 2);
+        check.equal("P14 and dropped", x.undo(), 1);
     }
 
     private static void undoLeavesTheBuffer() {
