@@ -69,7 +69,8 @@ public final class CallEdgeTest {
                     check.equal("from", x.person(0, 1), floor);
                     check.equal("to", x.person(0, 2), to);
                 } else {
-                    check.throwsThat("the same", IllegalArgumentException.class, () -> x.come(0, 0));
+                    int same = floor;
+                    check.throwsThat("the same", IllegalArgumentException.class, () -> x.come(same, same));
                 }
             }
         }
